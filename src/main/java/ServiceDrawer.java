@@ -22,8 +22,6 @@ public final class ServiceDrawer {
     /** find draws here, so that the present town stays. */
     private final Town trial;
     private final Judge judge;
-    private final Text printed;
-    private final Text tape;
     private final Printer printer;
     private final Reader reader;
 
@@ -31,10 +29,8 @@ public final class ServiceDrawer {
         town = new Town();
         trial = new Town();
         judge = new Judge();
-        printed = new Text();
-        tape = new Text();
-        printer = new Printer(printed);
-        reader = new Reader(tape);
+        printer = new Printer();
+        reader = new Reader();
         town.become(0, 0);
     }
 
@@ -118,32 +114,32 @@ public final class ServiceDrawer {
 
     public int print() {
         printer.write(town);
-        return printed.length();
+        return printer.text.length();
     }
 
     public int at(int i) throws IndexOutOfBoundsException {
         if (i < 0) {
             throw new IndexOutOfBoundsException("a byte's number is below 0");
         }
-        return printed.byteAt(i);
+        return printer.text.byteAt(i);
     }
 
     public int sign(long bytes, int n) throws IndexOutOfBoundsException, UnsupportedOperationException {
         if (n < 1 || n > MOST_SIGNED) {
             throw new IndexOutOfBoundsException("n is not 1 .. 8");
         }
-        if (n > MOST_BYTES - tape.length()) {
+        if (n > MOST_BYTES - reader.tape.length()) {
             throw new UnsupportedOperationException("the tape has no room");
         }
         for (int i = n - 1; i >= 0; i--) {
-            tape.add((int) (bytes >>> (8 * i)) & 255);
+            reader.tape.add((int) (bytes >>> (8 * i)) & 255);
         }
-        return tape.length();
+        return reader.tape.length();
     }
 
     public int check() {
         int wrong = reader.wrongPlace();
-        tape.clear();
+        reader.tape.clear();
         return wrong;
     }
 
@@ -450,25 +446,18 @@ public final class ServiceDrawer {
         }
 
         int leaveOutWhile(Town town, int verdict) {
-            int all = 0;
-            int now = 1;
-            // Each round but the last leaves out a part, so that there is at most one more than parts.
-            for (int round = 0; round <= PARTS && now > 0; round++) {
-                now = leaveOutOnce(town, verdict);
-                all += now;
-            }
-            return all;
-        }
-
-        private int leaveOutOnce(Town town, int verdict) {
             int left = 0;
-            for (int p = 0; p < PARTS; p++) {
-                if (town.isThere(p)) {
-                    town.setThere(p, false);
-                    if (says(town, verdict)) {
-                        left++;
-                    } else {
-                        town.setThere(p, true);
+            boolean more = true;
+            // Each round but the last leaves out a part, so that there is at most one round more than parts.
+            for (int round = 0; round <= PARTS && more; round++) {
+                more = false;
+                for (int p = 0; p < PARTS; p++) {
+                    if (town.isThere(p)) {
+                        town.setThere(p, false);
+                        boolean stays = says(town, verdict);
+                        town.setThere(p, !stays);
+                        left += stays ? 1 : 0;
+                        more = more || stays;
                     }
                 }
             }
@@ -543,18 +532,13 @@ public final class ServiceDrawer {
 
         private boolean someWayIsLong(Town town) {
             for (int u = FIRST_UNIT; u < FIRST_CALL; u++) {
-                if (town.isThere(u) && someCallIsFar(town, town.cornerOf(u))) {
-                    return true;
-                }
-            }
-            return false;
-        }
-
-        private boolean someCallIsFar(Town town, int from) {
-            roads.measureFrom(town, from);
-            for (int c = FIRST_CALL; c < PARTS; c++) {
-                if (town.isThere(c) && roads.metresTo(town.cornerOf(c)) > LONG_WAY) {
-                    return true;
+                if (town.isThere(u)) {
+                    roads.measureFrom(town, town.cornerOf(u));
+                    for (int c = FIRST_CALL; c < PARTS; c++) {
+                        if (town.isThere(c) && roads.metresTo(town.cornerOf(c)) > LONG_WAY) {
+                            return true;
+                        }
+                    }
                 }
             }
             return false;
@@ -600,12 +584,12 @@ public final class ServiceDrawer {
         }
     }
 
-    /** Writes towns as texts. */
+    /** Writes towns as texts and keeps the latest one. */
     private static final class Printer {
         private final Text text;
 
-        Printer(Text target) {
-            text = target;
+        Printer() {
+            text = new Text();
         }
 
         void write(Town town) {
@@ -644,20 +628,20 @@ public final class ServiceDrawer {
         }
     }
 
-    /** Reads a text as a town's, up to the first place where it is wrong. */
+    /** Keeps the tape and reads it as a town's text, up to the first place where it is wrong. */
     private static final class Reader {
         private static final int MOST_DIGITS = 4;
         private static final int HIGHEST_CORNER = 20;
 
-        private final Text text;
+        private final Text tape;
         private final int[] rowsOf;
         private int place;
         private int latestKind;
         private int latestNumber;
         private int wrong;
 
-        Reader(Text source) {
-            text = source;
+        Reader() {
+            tape = new Text();
             rowsOf = new int[KINDS];
         }
 
@@ -671,14 +655,14 @@ public final class ServiceDrawer {
             }
             boolean right = true;
             // Each row that is right takes bytes, so that there are never more rows than these.
-            for (int row = 0; row < MOST_BYTES && right && place < text.length(); row++) {
+            for (int row = 0; row < MOST_BYTES && right && place < tape.length(); row++) {
                 right = readRow();
             }
             return wrong;
         }
 
         private boolean readRow() {
-            int kind = kindOfLetter(text.byteAt(place));
+            int kind = kindOfLetter(tape.byteAt(place));
             if (kind < latestKind || kind >= KINDS || rowsOf[kind] >= mostRowsOf(kind)) {
                 return wrongAt(place);
             }
@@ -726,7 +710,7 @@ public final class ServiceDrawer {
         }
 
         private boolean readByte(int due) {
-            if (text.byteAt(place) != due) {
+            if (tape.byteAt(place) != due) {
                 return wrongAt(place);
             }
             place++;
@@ -737,14 +721,14 @@ public final class ServiceDrawer {
         private boolean readNumber(int lowest, int highest) {
             int start = place;
             int number = 0;
-            while (place - start < MOST_DIGITS && isDigit(text.byteAt(place))) {
-                number = 10 * number + text.byteAt(place) - '0';
+            while (place - start < MOST_DIGITS && isDigit(tape.byteAt(place))) {
+                number = 10 * number + tape.byteAt(place) - '0';
                 place++;
             }
             if (place == start) {
                 return wrongAt(place);
             }
-            boolean zeroInFront = text.byteAt(start) == '0' && place - start > 1;
+            boolean zeroInFront = tape.byteAt(start) == '0' && place - start > 1;
             if (zeroInFront || number < lowest || number > highest) {
                 return wrongAt(place - 1);
             }
