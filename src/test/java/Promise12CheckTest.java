@@ -16,8 +16,23 @@ public final class Promise12CheckTest {
         zeros();
         missing();
         limits();
-        Due.answers("check() of an empty tape", -1, X::check);
+        usedAgain();
         Due.end();
+    }
+
+    /** Nothing of one text counts for the next one on the same object. */
+    private static void usedAgain() {
+        Due.answers("check() of an empty tape", -1, X::check);
+        for (String text : new String[] {"s0-1:5;".repeat(30), "c0:0@0;".repeat(21), "u0:1;".repeat(11)}) {
+            for (int time = 0; time < 2; time++) {
+                Due.sign(X, text);
+                Due.answers("check() again of " + text, -1, X::check);
+            }
+        }
+        Due.sign(X, "s0-1:5");
+        Due.answers("check() of a row that is not ended", 6, X::check);
+        Due.sign(X, ";");
+        Due.answers("check() of what would end it", 0, X::check);
     }
 
     private static void towns() {
