@@ -663,7 +663,7 @@ public final class ServiceDrawer {
 
         private boolean readRow() {
             int kind = kindOfLetter(tape.byteAt(place));
-            if (kind < latestKind || kind >= KINDS || rowsOf[kind] >= mostRowsOf(kind)) {
+            if (kind < 0 || kind >= KINDS || kind < latestKind || rowsOf[kind] >= mostRowsOf(kind)) {
                 return wrongAt(place);
             }
             latestKind = kind;

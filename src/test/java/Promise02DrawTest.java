@@ -10,17 +10,10 @@ public final class Promise02DrawTest {
         + "s8-10:40;s4-11:9;s8-12:62;s9-10:46;s11-12:68;s2-5:95;s5-7:27;s4-6:17;u6:6;u4:1;u0:1;u5:2;u8:4;u10:2;u12:2;"
         + "c6:2@1233;c9:2@466;c4:2@308;c5:0@288;c8:2@1258;c1:1@623;c12:2@1014;c2:2@859;c9:0@859;c6:2@488;c10:1@659;"
         + "c4:1@1225;c4:1@1225;";
-    private static final ServiceDrawer X = new ServiceDrawer();
 
     private static void draws(int seed, int size, int parts, String text) {
-        Due.answers("draw(" + seed + ", " + size + ")", parts, () -> X.draw(seed, size));
-        Due.same("text of " + seed + ", " + size, Due.text(X), text);
-    }
-
-    private static void refusesSize(int size) {
-        String before = Due.state(X);
-        Due.refuses("draw(1, " + size + ")", Due.RANGE, () -> X.draw(1, size));
-        Due.same("state after", Due.state(X), before);
+        Due.answers("draw(" + seed + ", " + size + ")", parts, () -> new Counted().draw(seed, size));
+        Due.same("text of " + seed + ", " + size, Made.town(seed, size).text(), text);
     }
 
     public static void main(String[] args) {
@@ -29,30 +22,33 @@ public final class Promise02DrawTest {
         draws(7, 12, 37, TOWN_7_12);
         draws(Integer.MAX_VALUE, 1, 4, "s0-1:75;u0:1;c1:0@848;c1:2@848;");
         draws(-1, 2, 8, "s0-1:75;s1-2:88;s0-1:59;u1:3;u2:7;c0:2@306;c2:2@306;c1:2@306;");
-        Due.answers("draw(25, 20)", 59, () -> X.draw(25, 20));
-        Due.answers("draw(MIN, 20)", 62, () -> X.draw(Integer.MIN_VALUE, 20));
-        refusesSize(-1);
-        refusesSize(21);
-        refusesSize(Integer.MIN_VALUE);
-        refusesSize(Integer.MAX_VALUE);
-        takesInAgain();
+        // How many parts it has: further streets of one corner are none.
+        Due.answers("draw(25, 20)", 59, () -> new Counted().draw(25, 20));
+        Due.answers("draw(2945, 20)", 57, () -> new Counted().draw(2945, 20));
+        Due.answers("draw(MIN, 20)", 62, () -> new Counted().draw(Integer.MIN_VALUE, 20));
+        for (int size : Made.WRONG_SIZES) {
+            Made.busy().refuses("draw(1, " + size + ")", Due.RANGE, x -> x.draw(1, size));
+            Made.town(5, 20).refuses("draw(1, " + size + ") in a large town", Due.RANGE, x -> x.draw(1, size));
+        }
+        anotherTownLeavesNothing();
         leavesPrintAndTape();
         Due.end();
     }
 
-    private static void takesInAgain() {
-        X.draw(5, 20);
-        X.leave(0, true);
-        X.leave(61, true);
-        draws(5, 20, 62, TOWN_5_20);
+    /** From large to small and back: nothing of the town before, and nothing left out. */
+    private static void anotherTownLeavesNothing() {
+        Made small = Made.town(5, 20, 0, 29, 30, 61).after(x -> x.draw(0, 0));
+        Due.same("small behind large", small.state(), Made.town(0, 0).state());
+        Made large = small.without(30, 41).after(x -> x.draw(5, 20));
+        Due.same("large behind small", large.state(), Made.town(5, 20).state());
+        Due.answers("draw(5, 20) again counts what it has, not what is there", 62,
+            () -> Made.town(5, 20, 0, 61).get().draw(5, 20));
     }
 
     private static void leavesPrintAndTape() {
-        X.draw(0, 0);
-        X.print();
-        X.sign('x', 1);
-        X.draw(5, 20);
-        Due.answers("at(0)", 'u', () -> X.at(0));
-        Due.answers("check()", 0, X::check);
+        Made drawn = Made.busy().after(x -> x.draw(5, 20));
+        Due.same("the latest print", drawn.printed(), "u0:6;c0:2@971;");
+        drawn.signed(":1;").is("check()", -1, Counted::check);
+        drawn.is("check() of what was begun", 9, Counted::check);
     }
 }

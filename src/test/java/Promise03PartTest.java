@@ -1,53 +1,58 @@
 /** Promise 3: part. */
 public final class Promise03PartTest {
-    private static final ServiceDrawer X = new ServiceDrawer();
+    private static final String NONE = "0 -1 0 0 0";
 
-    private static void is(int part, int there, int kind, int second, int third, int fourth) {
-        int[] want = {there, kind, second, third, fourth};
-        for (int what = 0; what < 5; what++) {
-            int asked = what;
-            Due.answers("part(" + part + ", " + what + ")", want[what], () -> X.part(part, asked));
+    public static void main(String[] args) {
+        Made town = Made.town(7, 12);
+        Due.same("the first street", town.part(0), "1 0 0 1 59");
+        Due.same("the last street", town.part(11), "1 0 8 12 62");
+        Due.same("behind the last street", town.part(12), NONE);
+        Due.same("no town of size 12 has it", town.part(19), NONE);
+        Due.same("the first further street", town.part(20), "1 0 9 10 46");
+        Due.same("a further street of one corner", town.part(21), NONE);
+        Due.same("a further street behind it", town.part(22), "1 0 11 12 68");
+        Due.same("a further street from a higher corner", town.part(23), "1 0 2 5 95");
+        Due.same("the last further street", town.part(25), "1 0 4 6 17");
+        Due.same("behind the last further street", town.part(26), NONE);
+        Due.same("the first unit", town.part(30), "1 1 6 6 0");
+        Due.same("the last unit", town.part(36), "1 1 12 2 0");
+        Due.same("behind the last unit", town.part(37), NONE);
+        Due.same("the first call", town.part(41), "1 2 6 2 1233");
+        Due.same("a burst", town.part(49), "1 2 9 0 859");
+        Due.same("the last call", town.part(53), "1 2 4 1 1225");
+        Due.same("behind the last call", town.part(54), NONE);
+        Due.same("the last part of all", town.part(61), NONE);
+        Due.same("the last part of all, of size 20", Made.town(5, 20).part(61), "1 2 16 1 695");
+        leftOut();
+        unknown();
+        Made.busy().onlyAnswers("part(0, 4)", 21, x -> x.part(0, 4));
+        Due.end();
+    }
+
+    /** "2 to 4: also of one left out" */
+    private static void leftOut() {
+        Made town = Made.town(7, 12, 0, 20, 30, 53);
+        Due.same("a street left out", town.part(0), "0 0 0 1 59");
+        Due.same("a further street left out", town.part(20), "0 0 9 10 46");
+        Due.same("a unit left out", town.part(30), "0 1 6 6 0");
+        Due.same("a call left out", town.part(53), "0 2 4 1 1225");
+        Made smaller = town.after(x -> x.draw(0, 0));
+        for (int part : new int[] {0, 20, 53}) {
+            Due.same("a part of the town before", smaller.part(part), NONE);
         }
     }
 
-    public static void main(String[] args) {
-        X.draw(7, 12);
-        is(0, 1, 0, 0, 1, 59);
-        is(11, 1, 0, 8, 12, 62);
-        is(12, 0, -1, 0, 0, 0);
-        is(19, 0, -1, 0, 0, 0);
-        is(20, 1, 0, 9, 10, 46);
-        is(21, 0, -1, 0, 0, 0);
-        is(22, 1, 0, 11, 12, 68);
-        is(25, 1, 0, 4, 6, 17);
-        is(26, 0, -1, 0, 0, 0);
-        is(30, 1, 1, 6, 6, 0);
-        is(36, 1, 1, 12, 2, 0);
-        is(37, 0, -1, 0, 0, 0);
-        is(40, 0, -1, 0, 0, 0);
-        is(41, 1, 2, 6, 2, 1233);
-        is(49, 1, 2, 9, 0, 859);
-        is(53, 1, 2, 4, 1, 1225);
-        is(54, 0, -1, 0, 0, 0);
-        X.leave(0, true);
-        X.leave(30, true);
-        X.leave(53, true);
-        is(0, 0, 0, 0, 1, 59);
-        is(30, 0, 1, 6, 6, 0);
-        is(53, 0, 2, 4, 1, 1225);
-        X.draw(0, 0);
-        is(0, 0, -1, 0, 0, 0);
-        is(53, 0, -1, 0, 0, 0);
-        X.draw(5, 20);
-        is(61, 1, 2, 16, 1, 695);
-        is(29, 1, 0, 8, 17, 70);
+    private static void unknown() {
         for (int wrong : new int[] {-1, 62, Integer.MIN_VALUE, Integer.MAX_VALUE}) {
-            Due.refuses("part " + wrong, Due.UNKNOWN, () -> X.part(wrong, 0));
+            for (int what = -1; what <= 5; what++) {
+                int asked = what;
+                Due.refuses("part(" + wrong + ", " + asked + ")", Due.UNKNOWN, () -> new Counted().part(wrong, asked));
+            }
+            Made.busy().refuses("part(" + wrong + ", 0)", Due.UNKNOWN, x -> x.part(wrong, 0));
         }
         for (int wrong : new int[] {-1, 5, Integer.MIN_VALUE, Integer.MAX_VALUE}) {
-            Due.refuses("what " + wrong, Due.UNKNOWN, () -> X.part(0, wrong));
-            Due.refuses("what of a part the town has not " + wrong, Due.UNKNOWN, () -> new ServiceDrawer().part(5, wrong));
+            Made.busy().refuses("part(0, " + wrong + ")", Due.UNKNOWN, x -> x.part(0, wrong));
+            Made.busy().refuses("part(5, " + wrong + ") of a part that it has not", Due.UNKNOWN, x -> x.part(5, wrong));
         }
-        Due.end();
     }
 }

@@ -1,56 +1,52 @@
-/** Promise 7: shrink. The texts that remain were worked out apart from the class. */
+/** Promise 7: shrink. What remains of more towns stands in the test of the terms. */
 public final class Promise07ShrinkTest {
-    private static final ServiceDrawer X = new ServiceDrawer();
-
-    private static void shrinks(int seed, int size, int verdict, int left, String text) {
-        String what = "shrink(" + verdict + ") of " + seed + ", " + size;
-        X.draw(seed, size);
-        Due.answers(what, left, () -> X.shrink(verdict));
-        Due.same("text after " + what, Due.text(X), text);
-        Due.answers("it holds on after " + what, 1, Due.holds(X, verdict));
-        Due.answers("again " + what, 0, () -> X.shrink(verdict));
-    }
-
-    private static void refuses(int verdict, Class<? extends RuntimeException> by) {
-        String before = Due.state(X);
-        Due.refuses("shrink(" + verdict + ")", by, () -> X.shrink(verdict));
-        Due.same("state after", Due.state(X), before);
-    }
-
     public static void main(String[] args) {
-        shrinks(2, 3, 0, 8, "c2:1@564;");
-        shrinks(5, 20, 1, 60, "c12:1@696;c12:1@696;");
-        shrinks(11, 4, 2, 14, "");
-        shrinks(7, 12, 3, 32, "s4-11:9;s8-12:62;s11-12:68;u8:4;c4:1@1225;");
-        shrinks(5, 20, 3, 58, "s5-19:35;s5-20:90;u20:3;c19:2@1419;");
-        shrinks(5, 20, 4, 57, "s11-13:44;s5-20:90;s7-10:65;s0-3:37;s8-17:70;");
-        // Of these a second round still leaves out parts.
-        shrinks(16, 6, 3, 15, "s2-5:62;s3-5:85;u2:7;c3:2@721;");
-        shrinks(2, 12, 3, 33, "s2-7:49;s2-10:53;u10:2;c7:0@897;");
-        countsItsOwnAlone();
+        Made.town(2, 3).is("shrink(0)", 8, x -> x.shrink(0));
+        Made.town(5, 20).is("shrink(1)", 60, x -> x.shrink(1));
+        Made.town(11, 4).is("shrink(2)", 14, x -> x.shrink(2));
+        Made.town(7, 12).is("shrink(3)", 32, x -> x.shrink(3));
+        Made.town(5, 20).is("shrink(4)", 57, x -> x.shrink(4));
+        Due.same("text after shrink(3)", Made.town(7, 12).after(x -> x.shrink(3)).text(),
+            "s4-11:9;s8-12:62;s11-12:68;u8:4;c4:1@1225;");
+        leftOutByItAlone();
+        oneVerdictAfterAnother();
         refusals();
+        leavesPrintAndTape();
         Due.end();
     }
 
-    private static void countsItsOwnAlone() {
-        X.draw(2, 3);
-        X.leave(0, true);
-        X.leave(44, true);
-        Due.answers("shrink(0)", 6, () -> X.shrink(0));
-        Due.same("text", Due.text(X), "c1:0@1174;");
-        Due.answers("take in again", 0, Due.leave(X, 0, false));
+    /** "how many parts are left out by it": not those that were left out before; none at all is 0. */
+    private static void leftOutByItAlone() {
+        Made.town(2, 3, 0, 44).is("shrink(0) with two left out before", 6, x -> x.shrink(0));
+        Made.town(2, 3).after(x -> x.shrink(0)).is("shrink(0) again", 0, x -> x.shrink(0));
+        Made.town(11, 4).withoutAll(0, 61).is("shrink(2) of nothing", 0, x -> x.shrink(2));
+    }
+
+    /** What one verdict leaves may be too little for another one: then this does not hold any more. */
+    private static void oneVerdictAfterAnother() {
+        Made shrunk = Made.town(5, 20).after(x -> x.shrink(4));
+        Due.same("verdicts", shrunk.verdicts(), "00101");
+        shrunk.refuses("shrink(3)", Due.STATE, x -> x.shrink(3));
+        shrunk.is("shrink(2)", 5, x -> x.shrink(2));
     }
 
     private static void refusals() {
-        X.draw(9, 3);
-        refuses(0, Due.STATE);
-        refuses(1, Due.STATE);
-        refuses(2, Due.STATE);
-        refuses(4, Due.STATE);
-        for (int wrong : new int[] {-1, 5, Integer.MIN_VALUE, Integer.MAX_VALUE}) {
-            refuses(wrong, Due.UNKNOWN);
+        for (int verdict = 0; verdict <= 4; verdict++) {
+            int v = verdict;
+            Made.fresh().refuses("shrink(" + v + ") of a new town", Due.STATE, x -> x.shrink(v));
+            Made.town(9, 3, 0).refuses("shrink(" + v + ") of 9, 3 without one", Due.STATE, x -> x.shrink(v));
         }
-        X.draw(0, 0);
-        refuses(3, Due.STATE);
+        for (int verdict : Made.WRONG_VERDICTS) {
+            Made.busy().refuses("shrink(" + verdict + ")", Due.UNKNOWN, x -> x.shrink(verdict));
+            Made.town(5, 20).refuses("shrink(" + verdict + ")", Due.UNKNOWN, x -> x.shrink(verdict));
+        }
+        // A call that is left out does not make verdict 0 hold; the shared test asks so.
+        Made.town(5, 20, 41).refuses("shrink(0) with a call left out", Due.STATE, x -> x.shrink(0));
+    }
+
+    private static void leavesPrintAndTape() {
+        Made shrunk = Made.busy().after(x -> x.shrink(0));
+        Due.same("the latest print", shrunk.printed(), "u0:6;c0:2@971;");
+        shrunk.signed(":1;").is("check()", -1, Counted::check);
     }
 }

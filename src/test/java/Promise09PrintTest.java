@@ -1,52 +1,42 @@
-/** Promise 9: print. Whole texts of many towns stand in the tests of promises 2 and 7. */
+/** Promise 9: print. What it writes stands in the test of the text. */
 public final class Promise09PrintTest {
-    private static final ServiceDrawer X = new ServiceDrawer();
-
-    private static void prints(int want, String text) {
-        Due.answers("print()", want, X::print);
-        Due.same("text", Due.text(X), text);
+    private static void prints(int length, Made town) {
+        town.is("print()", length, Counted::print);
+        Due.same("bytes of the print", Integer.toString(town.text().length()), Integer.toString(length));
     }
 
     public static void main(String[] args) {
-        prints(14, "u0:6;c0:2@971;");
-        X.draw(9, 3);
-        prints(80, "s0-1:21;s0-2:78;s2-3:35;s1-2:81;u2:6;u2:3;c2:0@878;c3:1@878;c1:2@1061;c2:1@1061;");
-        X.leave(1, true);
-        X.leave(30, true);
-        X.leave(41, true);
-        prints(58, "s0-1:21;s2-3:35;s1-2:81;u2:3;c3:1@878;c1:2@1061;c2:1@1061;");
-        X.draw(0, 0);
-        X.leave(30, true);
-        prints(9, "c0:2@971;");
-        X.leave(41, true);
-        prints(0, "");
-        X.draw(5, 20);
-        Due.answers("print()", 541, X::print);
-        X.draw(1872, 20);
-        Due.answers("print() of a long one", 548, X::print);
-        // A street drawn from the higher to the lower corner is printed from the lower one.
-        X.draw(-1, 2);
-        prints(61, "s0-1:75;s1-2:88;s0-1:59;u1:3;u2:7;c0:2@306;c2:2@306;c1:2@306;");
-        numbersOfMinutes();
-        printsAreTowns();
+        prints(14, Made.fresh());
+        prints(80, Made.town(9, 3));
+        prints(58, Made.town(9, 3, 1, 30, 41));
+        prints(9, Made.town(0, 0, 30));
+        prints(0, Made.town(0, 0, 30, 41));
+        prints(541, Made.town(5, 20));
+        prints(530, Made.town(5, 20, 41));
+        prints(548, Made.town(3354, 20));
+        prints(475, Made.town(5034, 20));
+        prints(0, Made.town(5, 20).withoutAll(0, 61));
+        again();
+        leavesTownAndTape();
         Due.end();
     }
 
-    private static void printsAreTowns() {
-        for (int seed = 0; seed < 300; seed++) {
-            ServiceDrawer x = new ServiceDrawer();
-            x.draw(seed * 7919, seed % 21);
-            Due.sign(x, Due.text(x));
-            Due.answers("check of a print", -1, x::check);
-        }
+    /** A print is the present town's, whatever was printed before. */
+    private static void again() {
+        Made twice = Made.town(9, 3).after(Counted::print);
+        Due.same("a second print", twice.text(), Made.town(9, 3).text());
+        Made longer = Made.town(0, 0).after(Counted::print).after(x -> x.draw(5, 20));
+        Due.same("a longer one behind a shorter one", longer.text(), Made.town(5, 20).text());
+        Made shorter = Made.town(5, 20).after(Counted::print).after(x -> x.draw(0, 0));
+        Due.same("a shorter one behind a longer one", shorter.text(), "u0:6;c0:2@971;");
+        Made none = Made.town(5, 20).after(Counted::print).after(x -> x.draw(0, 0)).without(30, 41);
+        Due.same("an empty one behind a longer one", none.text(), "");
     }
 
-    /** Every minute that is drawn stands in the print as Java itself writes it. */
-    private static void numbersOfMinutes() {
-        ServiceDrawer x = new ServiceDrawer();
-        for (int seed = 0; seed < 400; seed++) {
-            x.draw(seed, 0);
-            Due.same("text", Due.text(x), "u0:" + x.part(30, 3) + ";c0:" + x.part(41, 3) + "@" + x.part(41, 4) + ";");
-        }
+    private static void leavesTownAndTape() {
+        Made printed = Made.busy().after(Counted::print);
+        Due.same("counts", printed.counts(), Made.busy().counts());
+        Due.same("print", printed.printed(), "s0-2:78;s2-3:35;s1-2:81;u2:6;c2:0@878;c3:1@878;c2:1@1061;");
+        printed.signed(":1;").is("check()", -1, Counted::check);
     }
 }

@@ -1,70 +1,81 @@
 /** Promise 11: sign. */
 public final class Promise11SignTest {
-    private static void signs(ServiceDrawer x, long bytes, int n, int want) {
-        Due.answers("sign(" + bytes + ", " + n + ")", want, () -> x.sign(bytes, n));
-    }
-
     public static void main(String[] args) {
         howMany();
-        order();
+        lowestBytesHighestFirst();
         range();
         room();
+        leavesTownAndPrint();
         Due.end();
     }
 
+    /** "more on the tape: how many": all that are on it, from 1 .. 8 of a call. */
     private static void howMany() {
-        ServiceDrawer x = new ServiceDrawer();
+        Counted x = new Counted();
         int all = 0;
         for (int n = 1; n <= 8; n++) {
+            int many = n;
             all += n;
-            signs(x, -1L, n, all);
+            Due.answers("sign(-1, " + n + ")", all, () -> x.sign(-1L, many));
         }
-        x.check();
-        signs(x, 0L, 3, 3);
+        Due.answers("check() uses it up", 0, x::check);
+        Due.answers("sign(0, 3)", 3, () -> x.sign(0L, 3));
     }
 
-    /** "u0:1;" by its highest byte first; bytes above the lowest n do not count. */
-    private static void order() {
-        ServiceDrawer x = new ServiceDrawer();
-        signs(x, 0x75_30_3A_31_3BL, 5, 5);
-        Due.answers("check()", -1, x::check);
-        signs(x, 0xFFFFFF_75_30_3A_31_3BL, 5, 5);
-        Due.answers("check()", -1, x::check);
-        signs(x, 0x75_30L, 2, 2);
-        signs(x, 0x3A_31_3BL, 3, 5);
-        Due.answers("check()", -1, x::check);
-        signs(x, 0x3B_31_3A_30_75L, 5, 5);
-        Due.answers("check()", 0, x::check);
-        // A byte is 0 .. 255, and eight take the sign's place too.
-        signs(x, 0xF5_30_3A_31_3BL, 5, 5);
-        Due.answers("check()", 0, x::check);
-        signs(x, 0x63_30_3A_30_40_31_32_B0L, 8, 8);
-        Due.answers("check()", 7, x::check);
-        signs(x, 0xE3_30_3A_30_40_31_32_3BL, 8, 8);
-        Due.answers("check()", 0, x::check);
+    private static void checks(int want, long... bytesAndMany) {
+        Made tape = Made.fresh();
+        for (int i = 0; i < bytesAndMany.length; i += 2) {
+            long bytes = bytesAndMany[i];
+            int n = (int) bytesAndMany[i + 1];
+            tape = tape.after(x -> x.sign(bytes, n));
+        }
+        tape.is("check() of " + Long.toHexString(bytesAndMany[0]), want, Counted::check);
+    }
+
+    /** "the lowest n, the highest of these first": "u0:1;" and "c0:0@12;". */
+    private static void lowestBytesHighestFirst() {
+        checks(-1, 0x75_30_3A_31_3BL, 5);
+        checks(-1, 0xFFFFFF_75_30_3A_31_3BL, 5);
+        checks(-1, 0x75_30L, 2, 0x3A_31_3BL, 3);
+        checks(-1, 0xFF_75L, 1, 0x00_30L, 1, 0x80_3AL, 1, 0x31L, 1, -0x100L | 0x3BL, 1);
+        checks(0, 0x3B_31_3A_30_75L, 5);
+        // A 0 above is a byte as any other, when it is asked for.
+        checks(0, 0x75_30_3A_31_3BL, 6);
+        checks(-1, 0x63_30_3A_30_40_31_32_3BL, 8);
+        checks(0, 0x63_30_3A_30_40_31_32_3BL, 7);
+        checks(-1, 0x63L, 1, 0x63_30_3A_30_40_31_32_3BL, 7);
     }
 
     private static void range() {
-        ServiceDrawer x = new ServiceDrawer();
-        signs(x, 'x', 1, 1);
-        for (int wrong : new int[] {-1, 0, 9, Integer.MIN_VALUE, Integer.MAX_VALUE}) {
-            Due.refuses("sign(0, " + wrong + ")", Due.RANGE, () -> x.sign(0, wrong));
+        for (int n : new int[] {0, 9, -1, -8, 16, Integer.MIN_VALUE, Integer.MAX_VALUE}) {
+            Made.busy().refuses("sign(0, " + n + ")", Due.RANGE, x -> x.sign(0, n));
         }
-        signs(x, 'x', 1, 2);
     }
 
     private static void room() {
-        ServiceDrawer x = new ServiceDrawer();
-        for (int i = 1; i <= 74; i++) {
-            signs(x, 0, 8, 8 * i);
+        Made nearly = Made.fresh().signed("u0:1;".repeat(11) + "x".repeat(540));
+        nearly.is("sign(0, 4) of 595", 599, x -> x.sign(0, 4));
+        nearly.is("sign(0, 5) of 595", 600, x -> x.sign(0, 5));
+        for (int n = 6; n <= 8; n++) {
+            int many = n;
+            nearly.refuses("sign(0, " + n + ") of 595", Due.NO_ROOM, x -> x.sign(0, many));
         }
-        signs(x, 0, 3, 595);
-        Due.refuses("sign(0, 8)", Due.NO_ROOM, () -> x.sign(0, 8));
-        Due.refuses("sign(0, 6)", Due.NO_ROOM, () -> x.sign(0, 6));
-        signs(x, 0, 5, 600);
-        Due.refuses("sign(0, 1)", Due.NO_ROOM, () -> x.sign(0, 1));
-        Due.refuses("sign(0, 9): the range comes first", Due.RANGE, () -> x.sign(0, 9));
-        Due.answers("check()", 0, x::check);
-        signs(x, 0, 8, 8);
+        Made full = nearly.after(x -> x.sign(0, 5));
+        for (int n = 1; n <= 8; n++) {
+            int many = n;
+            full.refuses("sign(0, " + n + ") of 600", Due.NO_ROOM, x -> x.sign(0, many));
+        }
+        full.refuses("sign(0, 9) of 600: the range comes first", Due.RANGE, x -> x.sign(0, 9));
+        full.refuses("sign(0, 0) of 600: the range comes first", Due.RANGE, x -> x.sign(0, 0));
+        full.is("check() of 600", 55, Counted::check);
+        Made usedUp = full.after(Counted::check);
+        usedUp.signed("x".repeat(592)).is("sign(0, 8) of 592 behind a check", 600, x -> x.sign(0, 8));
+        usedUp.signed("u0:1;").is("check() behind a check", -1, Counted::check);
+    }
+
+    private static void leavesTownAndPrint() {
+        Made signed = Made.busy().signed(":1;");
+        Due.same("counts", signed.counts(), Made.busy().counts());
+        Due.same("the latest print", signed.printed(), "u0:6;c0:2@971;");
     }
 }

@@ -45,7 +45,7 @@ public final class RandomRunsTest {
         return text.toString();
     }
 
-    private static int signAll(ServiceDrawer x, Model m, String text) {
+    private static int signAll(Counted x, Model m, String text) {
         int calls = 0;
         for (int i = 0; i < text.length(); i += 8) {
             int n = Math.min(8, text.length() - i);
@@ -60,7 +60,7 @@ public final class RandomRunsTest {
         return calls;
     }
 
-    private static int townCall(ServiceDrawer x, Model m) {
+    private static int townCall(Counted x, Model m) {
         int a = upTo(61);
         int b = upTo(5);
         int v = upTo(5);
@@ -73,11 +73,14 @@ public final class RandomRunsTest {
         switch (CHANCE.nextInt(16)) {
             case 0 -> both("draw " + seed + " " + size, () -> x.draw(seed, size), () -> m.draw(seed, size));
             case 1, 2 -> both("part " + a + " " + b, () -> x.part(a, b), () -> m.part(a, b));
-            case 3, 4, 5, 6, 7 -> both("leave " + a + " " + out, Due.leave(x, a, out), () -> {
+            case 3, 4, 5, 6, 7 -> both("leave " + a + " " + out, () -> {
+                x.leave(a, out);
+                return 0;
+            }, () -> {
                 m.leave(a, out);
                 return 0;
             });
-            case 8, 9 -> both("holds " + v, Due.holds(x, v), () -> m.holds(v) ? 1 : 0);
+            case 8, 9 -> both("holds " + v, () -> x.holds(v) ? 1 : 0, () -> m.holds(v) ? 1 : 0);
             case 10, 11 -> both("way " + u + " " + c, () -> x.way(u, c), () -> m.way(u, c));
             case 12 -> both("find " + v + " " + seed + " " + size + " " + n,
                     () -> x.find(v, seed, size, n), () -> m.find(v, seed, size, n));
@@ -91,7 +94,7 @@ public final class RandomRunsTest {
         return 1;
     }
 
-    private static int textCall(ServiceDrawer x, Model m) {
+    private static int textCall(Counted x, Model m) {
         int i = upTo(600);
         int n = upTo(9);
         long bytes = CHANCE.nextLong();
@@ -115,7 +118,7 @@ public final class RandomRunsTest {
 
     public static void main(String[] args) {
         for (int run = 0; run < 400; run++) {
-            ServiceDrawer x = new ServiceDrawer();
+            Counted x = new Counted();
             Model m = new Model();
             int calls = 0;
             while (calls < 430) {

@@ -44,7 +44,7 @@ public final class RowsTest {
             x.draw(seed, 20);
             x.find(3, seed, 20, 50);
             x.print();
-            Due.sign(x, "s0-1:5;");
+            x.sign(seed, 1 + seed % 8);
             x.check();
             if (x.holds(4)) {
                 x.shrink(4);
