@@ -12,6 +12,7 @@ public final class TermsShrinkingTest {
         lowerPartsFirst();
         toNothing();
         moreThanOneRound();
+        aRoundGoesOn();
         leavesOutNone();
         whatWasLeftOutStaysOut();
         whileItHolds();
@@ -37,6 +38,16 @@ public final class TermsShrinkingTest {
         shrinks(3, Made.town(5, 20), 58, "s5-19:35;s5-20:90;u20:3;c19:2@1419;");
         shrinks(3, Made.town(16, 6), 15, "s2-5:62;s3-5:85;u2:7;c3:2@721;");
         shrinks(3, Made.town(2, 12), 33, "s2-7:49;s2-10:53;u10:2;c7:0@897;");
+    }
+
+    /**
+     * "a whole round": behind a part that is left out the next one is tried, not part 0 again. Begun again at part 0,
+     * these would end with s1-3:73;s2-3:44;u1:4;c2:1@1029; and the like, or with a part less.
+     */
+    private static void aRoundGoesOn() {
+        shrinks(3, Made.town(15, 3), 6, "s0-1:40;s1-3:73;u0:6;c3:1@634;");
+        shrinks(3, Made.town(68, 3), 5, "s0-1:99;s1-3:55;s2-3:56;u2:6;c0:2@414;");
+        shrinks(3, Made.town(143, 3), 5, "s0-1:98;s2-3:90;s0-3:76;u1:5;c2:0@398;");
     }
 
     private static void leavesOutNone() {
