@@ -51,6 +51,21 @@ interface Made {
         });
     }
 
+    /** Of the parts from one to another these alone. */
+    default Made only(int from, int to, int... parts) {
+        return after(x -> {
+            for (int part = from; part <= to; part++) {
+                boolean stays = false;
+                for (int one : parts) {
+                    stays |= one == part;
+                }
+                if (!stays && x.part(part, 0) == 1) {
+                    x.leave(part, true);
+                }
+            }
+        });
+    }
+
     default Made signed(String text) {
         return after(x -> {
             for (int i = 0; i < text.length(); i += 8) {

@@ -10,6 +10,7 @@ public final class Promise06WayTest {
 
     public static void main(String[] args) {
         ways();
+        overManyStreets();
         cantCome();
         oneOfBothIsLeftOut();
         needsNoSkill();
@@ -37,6 +38,15 @@ public final class Promise06WayTest {
         way(Made.town(97, 2), 1, 0, 9);
         way(Made.town(97, 2, 0), 1, 0, 95);
         way(Made.town(5, 20), 10, 20, 0);
+    }
+
+    /** Over 16, 12 and 13 streets, to lower corners and to higher ones: the longest of a million seeds. */
+    private static void overManyStreets() {
+        way(Made.town(79412, 20).withoutAll(20, 29), 10, 10, 795);
+        Made far = Made.town(884747, 20).withoutAll(20, 29);
+        way(far, 0, 6, 624);
+        way(far, 4, 1, 688);
+        way(far.without(0), 4, 1, -1);
     }
 
     private static void cantCome() {

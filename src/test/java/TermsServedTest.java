@@ -27,6 +27,11 @@ public final class TermsServedTest {
         served("over the other of two", 3, true, far.without(20));
         served("over none of two", 2, false, far.without(0, 20));
         served("no street to the unit", 1, false, far.without(1));
+        // Each over the longest way of a million seeds, of 16, 12 and 13 streets.
+        served("over 16 streets", 1, true, Made.town(79412, 20).only(20, 61, 40, 51));
+        served("over 12 streets to lower corners", 1, true, Made.town(884747, 20).only(20, 61, 30, 47));
+        served("over 13 streets to higher corners", 1, true, Made.town(884747, 20).only(20, 61, 34, 42));
+        served("over 12 of 13 streets", 0, false, Made.town(884747, 20).only(20, 61, 34, 42).without(0));
     }
 
     /** "no street is needed for its own": s0-1:71;u0:7;c0:2;c1:1. */
